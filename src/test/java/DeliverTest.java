@@ -7,6 +7,7 @@ public final class DeliverTest {
         theMessageLeavesTheRowFirst();
         aCorruptReplicaDoesNothing();
         aProposalOfALaterViewIsEnteredAndVotedFor();
+        whatDoesNotLeadOnLeavesTheTimer();
         oneVoteAViewAndNoneBehind();
         aProposalShowsItsParentsCertificate();
         theLockIsKept();
@@ -71,6 +72,26 @@ public final class DeliverTest {
         }
         CHECK.due("votes(1)", x.votes(1), 2);
         CHECK.due("message(0), to the leader of view 5", x.message(0), 1 + 4 + 32 + 256);
+    }
+
+    private static void whatDoesNotLeadOnLeavesTheTimer() {
+        ThreeChainLedger x = new ThreeChainLedger(1, 0, 4);
+        x.lead(0);
+        x.tick(1);
+        x.deliver(1);
+        CHECK.due("votes(1)", x.votes(1), 2);
+        CHECK.due("state(1, 1), the proposal being of its own view", x.state(1, 1), 1);
+        ThreeChainLedger y = new ThreeChainLedger(1, 0, 4);
+        for (int r = 1; r < 4; r++) {
+            Scene.ticks(y, r, 2);
+        }
+        y.flow(40);
+        CHECK.due("state(0, 8)", y.state(0, 8), 2);
+        Scene.ticks(y, 0, 1);
+        Scene.ticks(y, 3, 4);
+        y.flow(40);
+        CHECK.due("state(0, 8), the least of 2, 2 and 3", y.state(0, 8), 2);
+        CHECK.due("state(0, 1), PUSH being its own view", y.state(0, 1), 1);
     }
 
     private static void oneVoteAViewAndNoneBehind() {
@@ -155,15 +176,14 @@ public final class DeliverTest {
     private static void votesOfDifferentReplicasMakeACertificate() {
         ThreeChainLedger x = new ThreeChainLedger(1, 2, 4);
         x.lead(0);
-        x.deliver(0);
-        x.deliver(1);
-        for (int i = 0; i < 3; i++) {
-            x.vote(1, 1, 0);
-        }
-        while (x.waiting() > 1) {
-            x.deliver(1);
-        }
-        CHECK.due("state(0, 5) after votes of 0, 1 and 2, minus the one that waits", x.state(0, 5), 1);
+        x.drop(3);
+        x.flow(3);
+        CHECK.due("votes(1)", x.votes(1), 5);
+        x.flow(40);
+        CHECK.due("state(0, 5) after the votes of 0 and 2", x.state(0, 5), 0);
+        x.vote(1, 1, 0);
+        x.flow(40);
+        CHECK.due("state(0, 5) after the votes of 0, 1 and 2", x.state(0, 5), 1);
         ThreeChainLedger y = new ThreeChainLedger(1, 2, 4);
         y.lead(0);
         y.deliver(0);
@@ -176,7 +196,7 @@ public final class DeliverTest {
         y.flow(40);
         CHECK.due("state(0, 5) after four votes of two replicas", y.state(0, 5), 0);
         CHECK.due("state(0, 0)", y.state(0, 0), 1);
-        // Who gets the votes need not lead: replica 3 makes a certificate of what was sent to it.
+        // Votes for a block of view 9 go to replica 1, which leads view 10.
         ThreeChainLedger z = Scene.withLiar();
         Scene.show(z, 0, 9, 0, 1, 2);
         CHECK.due("state(1, 5), votes of 1 and 2 alone", z.state(1, 5), 0);
@@ -205,6 +225,12 @@ public final class DeliverTest {
     }
 
     private static void newViewsPush() {
+        ThreeChainLedger w = new ThreeChainLedger(1, 0, 4);
+        Scene.ticks(w, 0, 2);
+        Scene.ticks(w, 1, 2 + 4);
+        Scene.ticks(w, 2, 2 + 4);
+        w.flow(40);
+        CHECK.due("state(0, 8), of 2, 3 and 3", w.state(0, 8), 2);
         ThreeChainLedger x = Scene.withLiar();
         x.claim(0, 7, 0, 1);
         x.claim(0, 3, 0, 1);

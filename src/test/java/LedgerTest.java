@@ -111,6 +111,8 @@ public final class LedgerTest {
         }
         dueLedger(y, 0, new int[] {60, 140, 100, 100}, 1, 1, 1, 1, 0, 0);
         dueLedger(y, 1, new int[] {80, 120, 100, 100}, 1, 1, 0, 0, 0, 0);
+        CHECK.due("outcome(0, 2), the other replica's once more", y.outcome(0, 2), 1);
+        CHECK.due("outcome(1, 2)", y.outcome(1, 2), 0);
     }
 
     private static void aWholeBalanceCanGo() {

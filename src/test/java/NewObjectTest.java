@@ -5,6 +5,7 @@ public final class NewObjectTest {
     public static void main(String[] args) {
         faultsTellTheReplicas();
         onlyTheFirstCorruptBitsCount();
+        bitsOfNoReplicaMakeNoLiar();
         turnsAreKeptBetweenFourAndNine();
         aNewObjectIsEmpty();
         CHECK.end();
@@ -47,6 +48,16 @@ public final class NewObjectTest {
             int view = (set >> r & 1) == 1 ? -1 : 1;
             CHECK.due("faults " + faults + ", corrupt " + corrupt + ": state(" + r + ", 0)", x.state(r, 0), view);
         }
+    }
+
+    private static void bitsOfNoReplicaMakeNoLiar() {
+        ThreeChainLedger x = new ThreeChainLedger(1, 16, 4);
+        x.lead(0);
+        CHECK.due("offer(1, 2), nobody being corrupt", x.offer(1, 2), false);
+        ThreeChainLedger y = new ThreeChainLedger(2, 129, 9);
+        Scene.show(y, 0, 1, 0, 1, 2, 3);
+        CHECK.due("votes(1)", y.votes(1), 14);
+        CHECK.due("forge(1, 2, 0), three votes and one liar", y.forge(1, 2, 0), -1);
     }
 
     private static void turnsAreKeptBetweenFourAndNine() {

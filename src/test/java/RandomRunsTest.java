@@ -23,7 +23,7 @@ public final class RandomRunsTest {
         random = new Random(seed);
         int faults = random.nextInt(4);
         n = faults == 2 ? 7 : 4;
-        corrupt = random.nextInt(4) == 0 ? 0 : random.nextInt(1 << n);
+        corrupt = random.nextInt(4) == 0 ? 0 : random.nextInt(1 << n + 2);
         turns = 3 + random.nextInt(8);
         wildness = random.nextInt(3);
         x = new ThreeChainLedger(faults, corrupt, turns);
