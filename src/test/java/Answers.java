@@ -6,7 +6,7 @@ import java.util.function.ToIntFunction;
 
 /** All that an object can be asked, and what it answers. */
 final class Answers {
-    /** So many questions go to one object: with a scene of 200 calls and the 143 of goOn they are no more than 512. */
+    /** So many questions go to one object: with a scene of 200 calls and the 150 of goOn they are no more than 512. */
     private static final int PART = 160;
     private static final int REPLICAS = 7;
     private static final List<Question> QUESTIONS = questions();
@@ -47,11 +47,11 @@ final class Answers {
     }
 
     /** Adds the answers, and returns the questions that were not answered by -1. */
-    private static List<Question> ask(Supplier<ThreeChainLedger> scene, List<Question> questions, List<String> answers) {
+    private static List<Question> ask(Supplier<ThreeChainLedger> scene, List<Question> all, List<String> answers) {
         List<Question> taken = new ArrayList<>();
-        for (int first = 0; first < questions.size(); first += PART) {
+        for (int first = 0; first < all.size(); first += PART) {
             ThreeChainLedger x = scene.get();
-            for (Question q : questions.subList(first, Math.min(first + PART, questions.size()))) {
+            for (Question q : all.subList(first, Math.min(first + PART, all.size()))) {
                 int answer = q.asked.applyAsInt(x);
                 answers.add(q.text + " = " + answer);
                 if (answer != -1) {
@@ -90,6 +90,9 @@ final class Answers {
             tick(x, r, r % 2 == 0 ? 6 : 2, answers);
         }
         flowAndLead(x, answers);
+        for (int r = 0; r < REPLICAS; r++) {
+            answers.accept("state(" + r + ", 8) after ticks = " + x.state(r, 8));
+        }
         for (int r = 1; r < REPLICAS; r += 2) {
             tick(x, r, 4, answers);
         }

@@ -69,7 +69,7 @@ public final class ForgeEdgesTest {
     }
 
     private static void theParentHasACertificate() {
-        CHECK.sentence("-1, refused, if there is no certificate of it: the voters and all corrupt ones are 2f + 1 or more");
+        CHECK.sentence("-1, refused, if there is no certificate of it: voters and corrupt ones are 2f + 1 or more");
         refused(", 1 vote and 1 corrupt of 4", () -> voted(1, 1, 1), 1, 2, 0);
         taken(", 2 votes and 1 corrupt of 4", () -> voted(1, 1, 2), new int[] {1, 2, 0}, 2);
         taken(", 3 votes and 1 corrupt of 4", () -> voted(1, 1, 3), new int[] {1, 2, 0}, 2);
@@ -129,7 +129,8 @@ public final class ForgeEdgesTest {
         refused(" of seven", seven, 0, 10000, 0);
         for (int r = 0; r < 4; r++) {
             int corrupt = 1 << r;
-            refused(", replica " + r + " being corrupt", () -> new ThreeChainLedger(1, corrupt, 4), 0, Integer.MAX_VALUE, 0);
+            Supplier<ThreeChainLedger> one = () -> new ThreeChainLedger(1, corrupt, 4);
+            refused(", replica " + r + " being corrupt", one, 0, Integer.MAX_VALUE, 0);
         }
         // A block of view 9999 can be a parent, but no forged block comes upon it.
         Supplier<ThreeChainLedger> last = () -> {

@@ -101,7 +101,7 @@ public final class KnowledgeEdgesTest {
     }
 
     private static void tipNeedsBothSteps() {
-        CHECK.sentence("a is the parent of a block b whose view is one more, the parent of a block c whose view is again one more");
+        CHECK.sentence("a is the parent of a b whose view is one more, which is that of a c whose view is again one more");
         int[][] views = {{1, 2, 3}, {4, 5, 6}, {7, 8, 9}, {1, 2, 4}, {1, 3, 4}, {1, 3, 5}, {1, 2, 9}, {1, 8, 9}};
         int[] tips = {1, 1, 1, 0, 0, 0, 0, 0};
         for (int i = 0; i < views.length; i++) {
@@ -222,7 +222,9 @@ public final class KnowledgeEdgesTest {
             CHECK.due("PUSH" + where, x.state(0, PUSH), pushes[i]);
         }
         // Several views can have 2f + 1, wherever the greatest of them stands: of four the third greatest one counts.
-        int[][] four = {{2, 3, 3, 4}, {4, 3, 3, 2}, {3, 2, 4, 3}, {3, 3, 3, 2}, {2, 3, 3, 3}, {2, 2, 4, 4}, {4, 4, 2, 4}};
+        int[][] four = {
+            {2, 3, 3, 4}, {4, 3, 3, 2}, {3, 2, 4, 3}, {3, 3, 3, 2}, {2, 3, 3, 3}, {2, 2, 4, 4}, {4, 4, 2, 4},
+        };
         int[] third = {3, 3, 3, 3, 3, 2, 4};
         for (int i = 0; i < four.length; i++) {
             ThreeChainLedger x = new ThreeChainLedger(1, 0, 4);

@@ -12,7 +12,7 @@ public final class LeaderEdgesTest {
     }
 
     private static void eachLeadsKViews() {
-        CHECK.sentence("The LEADER of view v is (v - 1) / k, rounded down: each one leads k views, one after the other");
+        CHECK.sentence("The LEADER of view v is (v - 1) / k, rounded down: each one leads k views");
         for (int faults = 1; faults <= 2; faults++) {
             for (int k = 4; k <= 9; k++) {
                 for (int r = 0; r < 3 * faults + 1; r++) {

@@ -49,7 +49,13 @@ public final class LieEdgesTest {
     private static ThreeChainLedger row(int count) {
         ThreeChainLedger x = new ThreeChainLedger(1, 2, 4);
         x.forge(0, 5, 0);
-        for (int i = 0; i < count; i++) {
+        // Five NEWVIEWs of three correct replicas, so that the last claims tell where PUSH stands.
+        if (count > 5) {
+            Scene.ticks(x, 0, 2 + 4);
+            Scene.ticks(x, 2, 2 + 4);
+            Scene.ticks(x, 3, 2);
+        }
+        while (x.waiting() < count) {
             x.claim(1, 2, 0, 0);
         }
         return x;
@@ -269,7 +275,7 @@ public final class LieEdgesTest {
     }
 
     private static void claimACertificate() {
-        CHECK.sentence("False, refused, if there is no certificate of it: the voters and all corrupt ones are 2f + 1 or more");
+        CHECK.sentence("False, refused, if there is no certificate of it: voters and corrupt ones are 2f + 1 or more");
         claimDenied(() -> withVotes(1, 1, 0), 0, 3, 1, 2);
         claimDenied(() -> withVotes(1, 1, 1), 0, 3, 1, 2);
         claimed(() -> withVotes(1, 1, 2), 0, 3, 1, 2);

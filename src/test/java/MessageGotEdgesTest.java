@@ -76,7 +76,7 @@ public final class MessageGotEdgesTest {
     }
 
     private static void aProposalShowsTheParentFirst() {
-        CHECK.sentence("it sees the certificate of b's parent. Then, if its view is below b's view, it enters b's view");
+        CHECK.sentence("it sees the certificate of b's parent. Then, if its view is below b's, it enters that");
         // Block 1 of view 3 has the votes of 2 and 3, block 2 of view 6 comes upon it.
         int[][] due = {{}, {6, 0, 2, 6, 0, 1}, {6, 0, 2, 6, 0, 1}, {6, 0, 2, 6, 0, 1}, {6, 0, 16, 6, 0, 1}};
         for (int view = 1; view <= 4; view++) {

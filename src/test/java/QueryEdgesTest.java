@@ -1,5 +1,4 @@
 import java.util.function.Supplier;
-import java.util.function.ToIntFunction;
 
 /** Promises 12 to 17 and 21: the edges of waiting, message, block, payload, votes, state and lost. */
 public final class QueryEdgesTest {
@@ -62,7 +61,7 @@ public final class QueryEdgesTest {
     }
 
     private static void messageOfEachKind() {
-        CHECK.sentence("its kind + 4 * the replica it goes to + 32 * the replica it comes from (0 for a PROPOSAL) + 256 * its block");
+        CHECK.sentence("its kind + 4 * where it goes to + 32 * where it comes from (0 for a PROPOSAL) + 256 * its block");
         ThreeChainLedger x = new ThreeChainLedger(2, 66, 4);
         Scene.round(x, 0);
         x.lead(0);
@@ -124,9 +123,9 @@ public final class QueryEdgesTest {
             Supplier<ThreeChainLedger> scene = () -> withBlocks(count);
             int[] none = {-1, count, count + 1, 40, 41, Integer.MIN_VALUE, Integer.MAX_VALUE};
             for (int b : none) {
-                refusedBlock("block(" + b + ") of " + count, scene, x -> x.block(b));
-                refusedBlock("payload(" + b + ") of " + count, scene, x -> x.payload(b));
-                refusedBlock("votes(" + b + ") of " + count, scene, x -> x.votes(b));
+                CHECK.refused("block(" + b + ") of " + count, scene, x -> x.block(b));
+                CHECK.refused("payload(" + b + ") of " + count, scene, x -> x.payload(b));
+                CHECK.refused("votes(" + b + ") of " + count, scene, x -> x.votes(b));
             }
             ThreeChainLedger x = scene.get();
             for (int b = 1; b < count; b++) {
@@ -135,10 +134,6 @@ public final class QueryEdgesTest {
                 CHECK.due("votes(" + b + ") of " + count, x.votes(b), 0);
             }
         }
-    }
-
-    private static void refusedBlock(String call, Supplier<ThreeChainLedger> scene, ToIntFunction<ThreeChainLedger> asked) {
-        CHECK.refused(call, scene, asked);
     }
 
     private static void blockZero() {

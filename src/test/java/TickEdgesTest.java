@@ -16,7 +16,7 @@ public final class TickEdgesTest {
     }
 
     private static void theTimerReachesThePatience() {
-        CHECK.sentence("The timer of replica r grows by 1. If it is the patience then, r enters the view after its own");
+        CHECK.sentence("The timer grows by 1. If it is the patience then, r enters the view after its own");
         int[] patience = {2, 4, 8, 16, 32};
         int before = 0;
         for (int i = 0; i < patience.length; i++) {
