@@ -101,7 +101,7 @@ public final class KnowledgeEdgesTest {
     }
 
     private static void tipNeedsBothSteps() {
-        CHECK.sentence("a is the parent of a b whose view is one more, which is that of a c whose view is again one more");
+        CHECK.sentence("a is the parent of a b whose view is one more, and b of a c whose view is again one more");
         int[][] views = {{1, 2, 3}, {4, 5, 6}, {7, 8, 9}, {1, 2, 4}, {1, 3, 4}, {1, 3, 5}, {1, 2, 9}, {1, 8, 9}};
         int[] tips = {1, 1, 1, 0, 0, 0, 0, 0};
         for (int i = 0; i < views.length; i++) {

@@ -61,7 +61,7 @@ public final class QueryEdgesTest {
     }
 
     private static void messageOfEachKind() {
-        CHECK.sentence("its kind + 4 * where it goes to + 32 * where it comes from (0 for a PROPOSAL) + 256 * its block");
+        CHECK.sentence("its kind + 4 * where to + 32 * where from (0 for a PROPOSAL) + 256 * its block");
         ThreeChainLedger x = new ThreeChainLedger(2, 66, 4);
         Scene.round(x, 0);
         x.lead(0);
