@@ -11,25 +11,19 @@ public final class StateTest {
         CHECK.end();
     }
 
-    private static void dueState(ThreeChainLedger x, int r, int... state) {
-        for (int what = 0; what < state.length; what++) {
-            CHECK.due("state(" + r + ", " + what + ")", x.state(r, what), state[what]);
-        }
-    }
-
     private static void everyWhatHasItsOwnAnswer() {
         ThreeChainLedger x = new ThreeChainLedger(1, 0, 9);
         for (int i = 0; i < 4; i++) {
             Scene.round(x, 0);
         }
-        dueState(x, 0, 5, 0, 2, 4, 4, 4, 3, 2, 0);
-        dueState(x, 1, 4, 0, 2, 4, 0, 3, 2, 1, 0);
+        CHECK.dueState(x, 0, 5, 0, 2, 4, 4, 4, 3, 2, 0);
+        CHECK.dueState(x, 1, 4, 0, 2, 4, 0, 3, 2, 1, 0);
         for (int r = 0; r < 4; r++) {
             Scene.ticks(x, r, r == 0 ? 2 : 6);
         }
         x.flow(40);
         x.tick(0);
-        dueState(x, 0, 6, 1, 4, 4, 4, 4, 3, 2, 6);
+        CHECK.dueState(x, 0, 6, 1, 4, 4, 4, 4, 3, 2, 6);
     }
 
     private static void wrongOnesAreRefused() {
@@ -49,11 +43,11 @@ public final class StateTest {
         Scene.show(x, 1, 3, 0, 1, 2);
         x.claim(0, 1, 2, 3);
         x.flow(40);
-        dueState(x, 3, 4, 0, 2, 0, 0, 2, 1, 0, 0);
+        CHECK.dueState(x, 3, 4, 0, 2, 0, 0, 2, 1, 0, 0);
         x.claim(0, 1, 1, 3);
         x.claim(0, 1, 0, 3);
         x.flow(40);
-        dueState(x, 3, 4, 0, 2, 0, 0, 2, 1, 0, 0);
+        CHECK.dueState(x, 3, 4, 0, 2, 0, 0, 2, 1, 0, 0);
     }
 
     private static void tipNeedsThreeSuccessiveViews() {
@@ -95,9 +89,9 @@ public final class StateTest {
         Scene.show(y, 4, 6, 0, 1, 2);
         y.claim(0, 1, 5, 3);
         y.flow(40);
-        dueState(y, 3, 7, 0, 2, 0, 0, 5, 4, 0, 0);
+        CHECK.dueState(y, 3, 7, 0, 2, 0, 0, 5, 4, 0, 0);
         y.claim(0, 1, 4, 3);
         y.flow(40);
-        dueState(y, 3, 7, 0, 2, 0, 0, 5, 4, 2, 0);
+        CHECK.dueState(y, 3, 7, 0, 2, 0, 0, 5, 4, 2, 0);
     }
 }
